@@ -28,6 +28,8 @@ public final class DropSwitch {
     private static final int MOST_RULES = 8;
     private static final int MOST_EVENTS = 120;
     private static final int MOST_ADDRESSES = 64;
+    private static final int MOST_SIZE = 9;
+    private static final int HIGHEST_CLASS = 3;
     private static final int MOST_CAPACITY = 99;
     private static final int MOST_BUFFER = 400;
     private static final int MOST_WAIT = 99;
@@ -171,7 +173,7 @@ public final class DropSwitch {
         needPort(port);
         needAddress(source);
         needAddress(target);
-        if (size < 1 || size > 9 || rank < 0 || rank > 3) {
+        if (size < 1 || size > MOST_SIZE || rank < 0 || rank > HIGHEST_CLASS) {
             throw new IllegalArgumentException();
         }
         needRoom();
@@ -202,7 +204,9 @@ public final class DropSwitch {
         suppositions.clear();
         changes++;
         present.start();
-        present.replay(0, events);
+        for (int event = 0; event < events; event++) {
+            present.happen(event);
+        }
         return present.log.drops;
     }
 
@@ -612,7 +616,9 @@ public final class DropSwitch {
         int first = latestCheckpoint(event);
         trial.limits.copyFrom(setup.limits);
         trial.startAt(checkpointStates[first / SPACING]);
-        trial.replay(first, event);
+        for (int k = first; k < event; k++) {
+            trial.happen(k);
+        }
     }
 
     private static boolean fitsSetting(int what, int value) {
@@ -654,8 +660,11 @@ public final class DropSwitch {
         int first = latestCheckpoint(event);
         trial.limits.copyFrom(setup.limits);
         trial.startAt(checkpointStates[first / SPACING]);
-        trial.replay(first, event);
-        trial.replay(event + 1, history.events);
+        for (int k = first; k < history.events; k++) {
+            if (k != event) {
+                trial.happen(k);
+            }
+        }
         int row = event * DROP_WORDS;
         for (int k = 0; k < DROP_WORDS; k++) {
             savedWithout[row + k] = 0;
@@ -1503,12 +1512,6 @@ public final class DropSwitch {
             log.clear();
         }
 
-        void replay(int first, int end) {
-            for (int k = first; k < end; k++) {
-                happen(k);
-            }
-        }
-
         /** Returns what the call that makes such an event returns. */
         int happen(int which) {
             event = which;
@@ -1627,7 +1630,7 @@ public final class DropSwitch {
         /** The place of the copy of the lowest class, of several the one nearest to the end. */
         private int leastImportant(int port) {
             int place = 0;
-            int lowest = Integer.MAX_VALUE;
+            int lowest = HIGHEST_CLASS;
             for (int k = 0; k < state.copies[port]; k++) {
                 int rank = history.rankOf(state.packetAt(port, k));
                 if (rank <= lowest) {
