@@ -115,6 +115,11 @@ public final class PromisesTest {
     // ---- the promises
 
     private static void newObject() {
+        DropSwitch fresh = new DropSwitch();
+        same("its table", fresh.tableSize() + " " + fresh.portOf(0) + " " + fresh.portOf(63), "0 -1 -1");
+        same("its past", fresh.portAt(0, 0) + " " + fresh.repeats(0) + " " + fresh.checkpoints(), "-1 0 0");
+        same("its supposed run", fresh.supposedDrops() + " " + fresh.saved() + " " + fresh.newlyDropped(), "0 0 0");
+        same("a tick without ports", fresh.tick() + " " + fresh.portAt(1, 0) + " " + fresh.tableSize(), "0 -1 0");
         DropSwitch x = new DropSwitch();
         for (int what = 0; what < 6; what++) {
             same("count(" + what + ")", x.count(what), 0);
@@ -198,6 +203,29 @@ public final class PromisesTest {
         last.arrive(0, 1, 2, 3, 0);
         same("the later buffer", last.dropsBy(DropSwitch.BUFFER), 1);
         conditions();
+        manyLoads();
+    }
+
+    /** A switch that is loaded again and again keeps nothing of the texts before. */
+    private static void manyLoads() {
+        String rules = "drop if (to=1 or to=2) and not from>1;pass if any and any and any;".repeat(4);
+        DropSwitch x = new DropSwitch();
+        for (int k = 0; k < 60; k++) {
+            feed(x, "port a 9 1;port b 9 1;" + rules);
+            x.load();
+        }
+        same("eight rules", x.count(1), 8);
+        x.arrive(0, 1, 2, 3, 1);
+        x.arrive(0, 2, 2, 3, 1);
+        same("the first rule of the latest text", x.dropsByRule(0), 1);
+        feed(x, "port a 9 1;port b 9 1;pass if at a;drop if any;");
+        x.load();
+        x.arrive(0, 1, 2, 3, 1);
+        same("a rule that passes where one dropped", x.dropsBy(DropSwitch.RULE), 0);
+        feed(x, "port a 9 1;port b 9 1;drop if at b;");
+        x.load();
+        x.arrive(0, 1, 2, 3, 1);
+        same("a rule that does not hold where one did", x.dropsBy(DropSwitch.RULE), 0);
     }
 
     private static void conditions() {
@@ -240,8 +268,15 @@ public final class PromisesTest {
         same("early end of a line", error("age 12"), "6 1");
         same("a part of a word", error("age 1; wai"), "7 1");
         same("a longer word", error("ages 1;"), "0 1");
+        same("a word with another first letter", error("xort a 1 1;"), "0 1");
         same("a sign", error("age 1; ;"), "7 1");
-        same("600 bytes", error("age 1;".repeat(100).substring(0, 599)), "599 1");
+        String most = "age 1;".repeat(99);
+        same("599 bytes", error(most + "age 1"), "599 1");
+        same("600 bytes", error(most + "age 1;"), "no error");
+        same("600 bytes, the last one a digit", error(most + "age 11"), "600 1");
+        same("600 bytes, the last one a letter", error(most + "  wait"), "600 1");
+        same("600 bytes, the last one a blank", error(most + "wait  "), "600 1");
+        same("600 bytes, the last one a sign", error(most + "wait ="), "599 1");
     }
 
     private static void errorKind() {
@@ -670,6 +705,30 @@ public final class PromisesTest {
         fails("pushedBy(-1)", BOUNDS, () -> x.pushedBy(-1));
     }
 
+    /** As many drops as can be: three copies of each of 120 packets. */
+    private static void mostDrops() {
+        DropSwitch x = made("port a 9 1;port b 9 1;port c 9 1;port d 9 1;buffer 1;");
+        for (int k = 0; k < 120; k++) {
+            same("packet " + k, x.arrive(3, 1, 2, 2, k % 4), 0);
+        }
+        promise = "24 dropField";
+        same("drops", x.count(4) + " " + drop(x, 0) + " " + drop(x, 359), "360 0 0 0 6 -1 119 119 2 6 -1");
+        fails("dropField(360, 0)", BOUNDS, () -> x.dropField(360, 0));
+        promise = "25 firstDrop";
+        same("of the last packet", x.firstDrop(119), 357);
+        promise = "26 dropsBy";
+        same("BUFFER and LOST", x.dropsBy(DropSwitch.BUFFER) + " " + x.dropsBy(DropSwitch.LOST), "360 0");
+        promise = "28 pushedBy";
+        same("none", x.pushedBy(119), 0);
+        promise = "41 saved";
+        x.suppose(1, 0, 2);
+        same("room for one copy", x.saved() + " " + x.newlyDropped() + " " + x.supposedDrops(), "1 0 359");
+        promise = "44 evidence";
+        same("of the last drop", evidence(x, 359) + "; " + evidence(x, 358) + "; " + evidence(x, 0), "119; 119; 0");
+        promise = "45 leastCapacity";
+        same("of the last drop", x.leastCapacity(359) + " " + x.leastCapacity(0), "-1 -1");
+    }
+
     private static void checkpoints() {
         DropSwitch x = made("port a 9 0;port b 99 1;port c 9 9;age 3;");
         promise = "29 checkpoints";
@@ -848,6 +907,50 @@ public final class PromisesTest {
         same("newly dropped", y.newlyDropped(), 1);
         y.rewind(2);
         same("the suppositions are over", y.supposedDrops(), 0);
+        supposedAnew();
+    }
+
+    /** Each question is the first one behind a change of the suppositions. */
+    private static void supposedAnew() {
+        String text = "port a 9 1;port b 2 1;port c 9 1;port d 9 1;wait 9;age 9;drop if to=9;drop if to=8;";
+        DropSwitch x = made(text);
+        x.arrive(0, 1, 9, 1, 0);
+        x.arrive(0, 1, 8, 1, 0);
+        x.arrive(0, 1, 2, 2, 0);
+        x.arrive(0, 1, 2, 1, 0);
+        x.tick();
+        promise = "40 supposedDelivered";
+        same("at first", x.supposedDelivered(1), 1);
+        x.leaveOut(4);
+        same("the tick left out", x.supposedDelivered(1), 0);
+        x.clearSuppositions();
+        same("and back", x.supposedDelivered(1), 1);
+        promise = "39 supposedFate";
+        x.leaveOut(2);
+        same("packet 2 left out", x.supposedFate(3, 1), 2);
+        promise = "41 saved";
+        x.clearSuppositions();
+        same("nothing is supposed", x.saved(), 0);
+        x.suppose(4, 1, 0);
+        same("rule 1 alone: packet 1, and packet 3 for packet 2", x.saved() + " " + x.supposedFate(1, 2), "2 2");
+        x.suppose(4, 0, 0);
+        same("both rules", x.saved() + " " + x.supposedFate(0, 2), "2 2");
+        promise = "42 newlyDropped";
+        x.clearSuppositions();
+        same("nothing is supposed", x.newlyDropped(), 0);
+        x.suppose(0, 3, 1);
+        same("a smaller capacity of d: packet 2", x.newlyDropped() + " " + x.supposedFate(2, 3), "1 3");
+        x.clearSuppositions();
+        x.suppose(0, 0, 1);
+        same("of a: none", x.newlyDropped(), 0);
+        x.suppose(2, 0, 1);
+        x.suppose(3, 0, 1);
+        same("the wait and the age limit are no capacities", x.newlyDropped(), 0);
+        promise = "37 supposedDrops";
+        x.tick();
+        same("c and d: packet 3 goes in time", x.supposedDrops() + " " + x.supposedDelivered(3), "3 2");
+        x.rewind(0);
+        same("no events", x.supposedDrops(), 0);
     }
 
     private static void explanations() {
@@ -918,12 +1021,40 @@ public final class PromisesTest {
         ticks(y, 2);
         same("now it would be stale", y.leastCapacity(0), -1);
         same("of a STALE drop: a smaller one keeps the packet out, but drops it", drop(y, 1) + " " + y.leastCapacity(1), "3 0 1 9 -1 -1");
+        DropSwitch most = made("port a 9 0;port b 9 0;");
+        for (int k = 0; k < 12; k++) {
+            most.arrive(0, 1, 2, 9, 0);
+        }
+        same("room for 11 packets", drop(most, 9) + " " + most.leastCapacity(9), "10 10 1 7 -1 99");
+        same("none has room for 12", drop(most, 10) + " " + most.leastCapacity(10), "11 11 1 7 -1 -1");
         promise = "46 savingRules";
         DropSwitch z = made("port a 9 0;port b 5 0;pass if size=4;drop if size<4;drop if size=5;");
         z.arrive(0, 1, 2, 4, 0);
         z.arrive(0, 1, 2, 3, 0);
         z.arrive(0, 1, 2, 5, 1);
         same("bits", z.savingRules(0) + " " + z.savingRules(1), "2 4");
+        manyDrops();
+    }
+
+    /** More drops than a long has bits: the link is down, and rule 1 would drop each second packet. */
+    private static void manyDrops() {
+        DropSwitch x = made("port a 9 0;port b 9 0;drop if at b;drop if from=1;");
+        x.link(0, false);
+        for (int k = 0; k < 90; k++) {
+            x.arrive(0, k % 2, 9, 1, 0);
+        }
+        same("all are DOWN", x.dropsBy(DropSwitch.DOWN), 90);
+        promise = "44 evidence";
+        same("asked for at once: the rule would drop it", x.evidence(89, 1) + " " + x.evidence(89, 0), "-1 90");
+        same("of an even one", evidence(x, 88), "0 89");
+        same("of earlier ones", evidence(x, 8) + "; " + evidence(x, 32) + "; " + evidence(x, 33), "0 9; 0 33; 34");
+        x.rewind(70);
+        x.link(0, true);
+        x.arrive(0, 1, 9, 1, 0);
+        promise = "43 evidenceCount";
+        same("after other events", x.evidenceCount(69) + " " + x.evidence(69, 0) + " " + x.evidenceCount(65), "1 71 1");
+        promise = "46 savingRules";
+        same("of the last one", x.savingRules(69) + " " + x.savingRules(68), "2 0");
     }
 
     private static void formatted() {
@@ -1022,6 +1153,7 @@ public final class PromisesTest {
         test("22 delivered", PromisesTest::delivered);
         test("23 fate", PromisesTest::fate);
         test("24 dropField", PromisesTest::drops);
+        test("8 arrive", PromisesTest::mostDrops);
         test("29 checkpoints", PromisesTest::checkpoints);
         test("31 fillAt", PromisesTest::past);
         test("33 peak", PromisesTest::peak);
