@@ -1,117 +1,5 @@
-import java.util.NoSuchElementException;
-
 /** At least one test for each promise of the document, in its order, with answers worked out by hand. */
-public final class PromisesTest {
-    private static final Class<?> BOUNDS = IndexOutOfBoundsException.class;
-    private static final Class<?> ARGUMENT = IllegalArgumentException.class;
-    private static final Class<?> STATE = IllegalStateException.class;
-    private static final Class<?> ELEMENT = NoSuchElementException.class;
-
-    private static int passed = 0;
-    private static int failed = 0;
-    private static String promise = "";
-
-    private interface Call {
-        void run();
-    }
-
-    private static void same(String what, Object got, Object want) {
-        if (got.equals(want)) {
-            passed++;
-        } else {
-            failed++;
-            System.out.println(promise + ": " + what + " answered " + got + ", due is " + want);
-        }
-    }
-
-    private static void fails(String what, Class<?> want, Call call) {
-        Object got = "nothing thrown";
-        try {
-            call.run();
-        } catch (RuntimeException e) {
-            got = e.getClass();
-        }
-        same(what, got, want);
-    }
-
-    // ---- helpers
-
-    private static void feed(DropSwitch x, String text) {
-        int before = 0;
-        for (int at = 0; at < text.length(); at += 20) {
-            int[] w = new int[5];
-            for (int k = 0; k < 20 && at + k < text.length(); k++) {
-                w[k / 4] |= (text.charAt(at + k) & 255) << 24 - k % 4 * 8;
-            }
-            before = x.append(w[0], w[1], w[2], w[3], w[4]);
-        }
-        x.truncate(text.isEmpty() ? 0 : before - (20 - text.length() % 20) % 20);
-    }
-
-    private static DropSwitch made(String text) {
-        DropSwitch x = new DropSwitch();
-        feed(x, text);
-        x.load();
-        return x;
-    }
-
-    /** Loads a text that does not match and tells "offset kind". */
-    private static String error(String text) {
-        DropSwitch x = new DropSwitch();
-        feed(x, text);
-        try {
-            x.load();
-            return "no error";
-        } catch (IllegalArgumentException e) {
-            return x.errorOffset() + " " + x.errorKind();
-        }
-    }
-
-    private static String drop(DropSwitch x, int drop) {
-        StringBuilder text = new StringBuilder();
-        for (int what = 0; what < 5; what++) {
-            text.append(what == 0 ? "" : " ").append(x.dropField(drop, what));
-        }
-        return text.toString();
-    }
-
-    private static String formatted(DropSwitch x) {
-        StringBuilder text = new StringBuilder();
-        for (int k = 0; x.formattedByte(k) != DropSwitch.NONE; k++) {
-            text.append((char) x.formattedByte(k));
-        }
-        return text.toString();
-    }
-
-    private static String queue(DropSwitch x, int port) {
-        StringBuilder text = new StringBuilder();
-        for (int k = 0; k < x.queueLength(port); k++) {
-            text.append(k == 0 ? "" : " ").append(x.queued(port, k));
-        }
-        return text.toString();
-    }
-
-    private static String evidence(DropSwitch x, int drop) {
-        StringBuilder text = new StringBuilder();
-        for (int k = 0; k < x.evidenceCount(drop); k++) {
-            text.append(k == 0 ? "" : " ").append(x.evidence(drop, k));
-        }
-        return text.toString();
-    }
-
-    private static void ticks(DropSwitch x, int number) {
-        for (int k = 0; k < number; k++) {
-            x.tick();
-        }
-    }
-
-    /** Tells whether a rule "drop if CONDITION" drops a packet from a (1 to 2, size 3, class 1). */
-    private static boolean drops(String condition) {
-        DropSwitch x = made("port a 9 1;port b 9 1;drop if " + condition + ";");
-        x.arrive(0, 1, 2, 3, 1);
-        return x.dropsBy(DropSwitch.RULE) == 1;
-    }
-
+public final class PromisesTest extends Due {
     // ---- the promises
 
     private static void newObject() {
@@ -210,7 +98,7 @@ public final class PromisesTest {
     private static void manyLoads() {
         String rules = "drop if (to=1 or to=2) and not from>1;pass if any and any and any;".repeat(4);
         DropSwitch x = new DropSwitch();
-        for (int k = 0; k < 60; k++) {
+        for (int k = 0; k < 24; k++) {
             feed(x, "port a 9 1;port b 9 1;" + rules);
             x.load();
         }
@@ -540,12 +428,12 @@ public final class PromisesTest {
         same("kinds", "" + x.eventKind(0) + x.eventKind(1) + x.eventKind(2) + x.eventKind(3), "1032");
         fails("eventKind(-1)", BOUNDS, () -> x.eventKind(-1));
         fails("eventKind(4)", BOUNDS, () -> x.eventKind(4));
-        promise = "13 packetOf";
+        about("13 packetOf");
         x.arrive(0, 1, 2, 1, 0);
         same("packets", x.packetOf(0) + " " + x.packetOf(1) + " " + x.packetOf(3) + " " + x.packetOf(4), "-1 0 -1 1");
         fails("packetOf(-1)", BOUNDS, () -> x.packetOf(-1));
         fails("packetOf(5)", BOUNDS, () -> x.packetOf(5));
-        promise = "14 arrivalOf";
+        about("14 arrivalOf");
         same("arrivals", x.arrivalOf(0) + " " + x.arrivalOf(1), "1 4");
         fails("arrivalOf(-1)", BOUNDS, () -> x.arrivalOf(-1));
         fails("arrivalOf(2)", BOUNDS, () -> x.arrivalOf(2));
@@ -556,22 +444,22 @@ public final class PromisesTest {
         same("an empty queue", x.fill(1) + " " + x.queueLength(1) + " " + x.queued(1, 0), "0 0 -1");
         x.arrive(0, 1, 2, 3, 0);
         x.arrive(0, 1, 2, 4, 1);
-        promise = "15 fill";
+        about("15 fill");
         same("fills", x.fill(0) + " " + x.fill(1) + " " + x.fill(2), "0 7 7");
         fails("fill(-1)", BOUNDS, () -> x.fill(-1));
         fails("fill(3)", BOUNDS, () -> x.fill(3));
-        promise = "16 queueLength";
+        about("16 queueLength");
         same("lengths", x.queueLength(0) + " " + x.queueLength(1), "0 2");
         fails("queueLength(-1)", BOUNDS, () -> x.queueLength(-1));
         fails("queueLength(3)", BOUNDS, () -> x.queueLength(3));
-        promise = "17 queued";
+        about("17 queued");
         same("copies", x.queued(1, 0) + " " + x.queued(1, 1) + " " + x.queued(1, 2), "0 1 -1");
         same("out of range", x.queued(1, -1) + x.queued(1, Integer.MAX_VALUE) + x.queued(1, Integer.MIN_VALUE), -3);
         fails("queued(3, 0)", BOUNDS, () -> x.queued(3, 0));
         x.tick();
         same("after a tick", queue(x, 1) + "; " + queue(x, 2), "0; 0 1");
         same("fill after a tick", x.fill(1), 3);
-        promise = "18 isUp";
+        about("18 isUp");
         same("at first", x.isUp(2), true);
         x.link(2, false);
         same("down", x.isUp(2), false);
@@ -671,7 +559,7 @@ public final class PromisesTest {
 
     private static void drops() {
         DropSwitch x = troubled();
-        promise = "24 dropField";
+        about("24 dropField");
         same("drop 0", drop(x, 0), "2 1 -1 2 1");
         same("drop 1", drop(x, 1), "3 2 1 7 -1");
         same("drop 2", drop(x, 2), "4 0 1 8 3");
@@ -682,16 +570,16 @@ public final class PromisesTest {
         fails("dropField(-1, 0)", BOUNDS, () -> x.dropField(-1, 0));
         fails("dropField(0, 5)", ELEMENT, () -> x.dropField(0, 5));
         fails("dropField(0, -1)", ELEMENT, () -> x.dropField(0, -1));
-        promise = "25 firstDrop";
+        about("25 firstDrop");
         same("firstDrops", x.firstDrop(0) + " " + x.firstDrop(1) + " " + x.firstDrop(7), "2 0 -1");
         fails("firstDrop(8)", BOUNDS, () -> x.firstDrop(8));
         fails("firstDrop(-1)", BOUNDS, () -> x.firstDrop(-1));
-        promise = "26 dropsBy";
+        about("26 dropsBy");
         same("dropsBy", x.dropsBy(1) + " " + x.dropsBy(2) + " " + x.dropsBy(7) + " " + x.dropsBy(8) + " " + x.dropsBy(10),
                 "1 3 1 2 0");
         fails("dropsBy(0)", ARGUMENT, () -> x.dropsBy(0));
         fails("dropsBy(11)", ARGUMENT, () -> x.dropsBy(11));
-        promise = "27 dropsByRule";
+        about("27 dropsByRule");
         same("dropsByRule", x.dropsByRule(0) + " " + x.dropsByRule(1), "1 2");
         fails("dropsByRule(2)", BOUNDS, () -> x.dropsByRule(2));
         fails("dropsByRule(-1)", BOUNDS, () -> x.dropsByRule(-1));
@@ -699,7 +587,7 @@ public final class PromisesTest {
         y.arrive(0, 1, 2, 1, 1);
         y.arrive(0, 1, 2, 3, 3);
         same("the packet that pushes is no rule", y.dropsByRule(0), 0);
-        promise = "28 pushedBy";
+        about("28 pushedBy");
         same("pushedBy", x.pushedBy(3) + " " + x.pushedBy(7) + " " + x.pushedBy(0) + " " + x.pushedBy(1), "1 1 0 0");
         fails("pushedBy(8)", BOUNDS, () -> x.pushedBy(8));
         fails("pushedBy(-1)", BOUNDS, () -> x.pushedBy(-1));
@@ -711,59 +599,59 @@ public final class PromisesTest {
         for (int k = 0; k < 120; k++) {
             same("packet " + k, x.arrive(3, 1, 2, 2, k % 4), 0);
         }
-        promise = "24 dropField";
+        about("24 dropField");
         same("drops", x.count(4) + " " + drop(x, 0) + " " + drop(x, 359), "360 0 0 0 6 -1 119 119 2 6 -1");
         fails("dropField(360, 0)", BOUNDS, () -> x.dropField(360, 0));
-        promise = "25 firstDrop";
+        about("25 firstDrop");
         same("of the last packet", x.firstDrop(119), 357);
-        promise = "26 dropsBy";
+        about("26 dropsBy");
         same("BUFFER and LOST", x.dropsBy(DropSwitch.BUFFER) + " " + x.dropsBy(DropSwitch.LOST), "360 0");
-        promise = "28 pushedBy";
+        about("28 pushedBy");
         same("none", x.pushedBy(119), 0);
-        promise = "41 saved";
+        about("41 saved");
         x.suppose(1, 0, 2);
         same("room for one copy", x.saved() + " " + x.newlyDropped() + " " + x.supposedDrops(), "1 0 359");
-        promise = "44 evidence";
+        about("44 evidence");
         same("of the last drop", evidence(x, 359) + "; " + evidence(x, 358) + "; " + evidence(x, 0), "119; 119; 0");
-        promise = "45 leastCapacity";
+        about("45 leastCapacity");
         same("of the last drop", x.leastCapacity(359) + " " + x.leastCapacity(0), "-1 -1");
     }
 
     private static void checkpoints() {
         DropSwitch x = made("port a 9 0;port b 99 1;port c 9 9;age 3;");
-        promise = "29 checkpoints";
+        about("29 checkpoints");
         same("none at first", x.checkpoints(), 0);
-        promise = "30 repeats";
+        about("30 repeats");
         same("none at first", x.repeats(0), 0);
         fails("repeats(1)", BOUNDS, () -> x.repeats(1));
         for (int k = 0; k < 8; k++) {
             x.arrive(0, k, 60, 1 + k % 3, 0);
             x.tick();
         }
-        promise = "29 checkpoints";
+        about("29 checkpoints");
         same("16 events", x.checkpoints(), 1);
-        promise = "30 repeats";
+        about("30 repeats");
         same("the checkpoint of event 16 is not there yet", x.repeats(16), 16);
         same("repeats(15)", x.repeats(15), 15);
         x.link(2, false);
-        promise = "29 checkpoints";
+        about("29 checkpoints");
         same("17 events", x.checkpoints(), 2);
-        promise = "30 repeats";
+        about("30 repeats");
         same("now it is", x.repeats(16) + " " + x.repeats(17) + " " + x.repeats(15), "0 1 15");
         fails("repeats(18)", BOUNDS, () -> x.repeats(18));
         fails("repeats(-1)", BOUNDS, () -> x.repeats(-1));
         x.rewind(16);
         same("gone again", x.repeats(16) + " " + x.checkpoints(), "16 1");
         ticks(x, 104);
-        promise = "29 checkpoints";
+        about("29 checkpoints");
         same("120 events", x.checkpoints(), 8);
-        promise = "30 repeats";
+        about("30 repeats");
         same("behind all", x.repeats(120) + " " + x.repeats(112), "8 0");
     }
 
     private static void past() {
         DropSwitch x = made("port a 9 0;port b 99 0;port c 9 9;age 3;");
-        promise = "31 fillAt";
+        about("31 fillAt");
         same("at first", x.fillAt(0, 1), 0);
         for (int k = 0; k < 20; k++) {
             x.arrive(0, k, 60, 1 + k % 2, 0);
@@ -778,7 +666,7 @@ public final class PromisesTest {
         fails("fillAt(-1, 1)", BOUNDS, () -> x.fillAt(-1, 1));
         fails("fillAt(0, 3)", BOUNDS, () -> x.fillAt(0, 3));
         fails("fillAt(0, -1)", BOUNDS, () -> x.fillAt(0, -1));
-        promise = "32 portAt";
+        about("32 portAt");
         same("learnt by event 3", x.portAt(3, 3) + " " + x.portAt(4, 3) + " " + x.portAt(17, 3), "-1 0 0");
         ticks(x, 3);
         same("too old then", x.portAt(19, 3) + " " + x.portAt(20, 3), "0 -1");
@@ -835,7 +723,7 @@ public final class PromisesTest {
         fails("age -1", ARGUMENT, () -> x.suppose(3, 0, -1));
         fails("age 1000", ARGUMENT, () -> x.suppose(3, 0, 1000));
         same("nothing came of that", x.suppose(0, 1, 4), 6);
-        promise = "35 leaveOut";
+        about("35 leaveOut");
         x.tick();
         x.tick();
         same("an event", x.leaveOut(1), 1);
@@ -843,7 +731,7 @@ public final class PromisesTest {
         same("another one", x.leaveOut(0), 2);
         fails("leaveOut(2)", BOUNDS, () -> x.leaveOut(2));
         fails("leaveOut(-1)", BOUNDS, () -> x.leaveOut(-1));
-        promise = "36 clearSuppositions";
+        about("36 clearSuppositions");
         same("all", x.clearSuppositions(), 8);
         same("none left", x.clearSuppositions(), 0);
         same("a new one", x.suppose(1, 0, 5), 1);
@@ -860,23 +748,23 @@ public final class PromisesTest {
         x.tick();
         x.arrive(1, 2, 1, 9, 0);
         same("as it is", drop(x, 0) + "; " + drop(x, 1), "1 1 -1 2 0; 2 0 1 8 2");
-        promise = "37 supposedDrops";
+        about("37 supposedDrops");
         same("without suppositions", x.supposedDrops() + " " + x.saved() + " " + x.newlyDropped(), x.count(4) + " 0 0");
         x.suppose(4, 0, 0);
         same("rule 0 does not hold: packets 0 and 1 are both pushed", x.supposedDrops(), 3);
-        promise = "38 supposedDropsBy";
+        about("38 supposedDropsBy");
         same("RULE", x.supposedDropsBy(DropSwitch.RULE) + " " + x.dropsBy(DropSwitch.RULE), "0 1");
         same("PUSHED", x.supposedDropsBy(DropSwitch.PUSHED), 2);
         fails("supposedDropsBy(0)", ARGUMENT, () -> x.supposedDropsBy(0));
         fails("supposedDropsBy(11)", ARGUMENT, () -> x.supposedDropsBy(11));
-        promise = "39 supposedFate";
+        about("39 supposedFate");
         same("packet 1", x.supposedFate(1, 1) + " " + x.supposedFate(1, 2) + " " + x.fate(1, 2), "3 2 0");
-        promise = "41 saved";
+        about("41 saved");
         same("its drop is none then", x.saved(), 1);
-        promise = "42 newlyDropped";
+        about("42 newlyDropped");
         same("but its copy is dropped", x.newlyDropped(), 1);
         x.clearSuppositions();
-        promise = "39 supposedFate";
+        about("39 supposedFate");
         x.suppose(0, 1, 5);
         same("a greater capacity", x.supposedFate(0, 1) + " " + x.fate(0, 1), "2 3");
         x.clearSuppositions();
@@ -885,11 +773,11 @@ public final class PromisesTest {
         fails("supposedFate(4, 0)", BOUNDS, () -> x.supposedFate(4, 0));
         fails("supposedFate(-1, 0)", BOUNDS, () -> x.supposedFate(-1, 0));
         fails("supposedFate(0, 3)", BOUNDS, () -> x.supposedFate(0, 3));
-        promise = "40 supposedDelivered";
+        about("40 supposedDelivered");
         same("deliveries", x.supposedDelivered(1) + " " + x.supposedDelivered(2) + " " + x.delivered(2), "1 1 2");
         fails("supposedDelivered(3)", BOUNDS, () -> x.supposedDelivered(3));
         fails("supposedDelivered(-1)", BOUNDS, () -> x.supposedDelivered(-1));
-        promise = "37 supposedDrops";
+        about("37 supposedDrops");
         x.clearSuppositions();
         x.suppose(3, 0, 2);
         same("a greater age limit: only to a", x.supposedFate(3, 0) + " " + x.supposedFate(3, 2), "1 0");
@@ -919,23 +807,23 @@ public final class PromisesTest {
         x.arrive(0, 1, 2, 2, 0);
         x.arrive(0, 1, 2, 1, 0);
         x.tick();
-        promise = "40 supposedDelivered";
+        about("40 supposedDelivered");
         same("at first", x.supposedDelivered(1), 1);
         x.leaveOut(4);
         same("the tick left out", x.supposedDelivered(1), 0);
         x.clearSuppositions();
         same("and back", x.supposedDelivered(1), 1);
-        promise = "39 supposedFate";
+        about("39 supposedFate");
         x.leaveOut(2);
         same("packet 2 left out", x.supposedFate(3, 1), 2);
-        promise = "41 saved";
+        about("41 saved");
         x.clearSuppositions();
         same("nothing is supposed", x.saved(), 0);
         x.suppose(4, 1, 0);
         same("rule 1 alone: packet 1, and packet 3 for packet 2", x.saved() + " " + x.supposedFate(1, 2), "2 2");
         x.suppose(4, 0, 0);
         same("both rules", x.saved() + " " + x.supposedFate(0, 2), "2 2");
-        promise = "42 newlyDropped";
+        about("42 newlyDropped");
         x.clearSuppositions();
         same("nothing is supposed", x.newlyDropped(), 0);
         x.suppose(0, 3, 1);
@@ -946,7 +834,7 @@ public final class PromisesTest {
         x.suppose(2, 0, 1);
         x.suppose(3, 0, 1);
         same("the wait and the age limit are no capacities", x.newlyDropped(), 0);
-        promise = "37 supposedDrops";
+        about("37 supposedDrops");
         x.tick();
         same("c and d: packet 3 goes in time", x.supposedDrops() + " " + x.supposedDelivered(3), "3 2");
         x.rewind(0);
@@ -965,27 +853,27 @@ public final class PromisesTest {
         x.arrive(0, 1, 7, 1, 0);
         x.arrive(0, 1, 3, 1, 1);
         same("drops", drop(x, 0) + "; " + drop(x, 1) + "; " + drop(x, 5), "3 1 1 8 2; 4 2 1 8 3; 8 7 1 7 -1");
-        promise = "43 evidenceCount";
+        about("43 evidenceCount");
         same("of packet 1", x.evidenceCount(0), 1);
         same("of packet 2", x.evidenceCount(1), 2);
         same("of packet 7", x.evidenceCount(5), 2);
         same("again", x.evidenceCount(1), 2);
         fails("evidenceCount(6)", BOUNDS, () -> x.evidenceCount(6));
         fails("evidenceCount(-1)", BOUNDS, () -> x.evidenceCount(-1));
-        promise = "44 evidence";
+        about("44 evidence");
         same("packet 1 is pushed by either", evidence(x, 0), "2");
         same("packet 2", evidence(x, 1), "3 4");
         same("packet 7", evidence(x, 5), "4 8");
         same("none", x.evidence(1, 2) + " " + x.evidence(1, -1) + " " + x.evidence(1, Integer.MAX_VALUE), "-1 -1 -1");
         fails("evidence(6, 0)", BOUNDS, () -> x.evidence(6, 0));
         fails("evidence(-1, 0)", BOUNDS, () -> x.evidence(-1, 0));
-        promise = "45 leastCapacity";
+        about("45 leastCapacity");
         same("room for packets 1, 2, 3 and 7", x.leastCapacity(0), 3 + 2 + 4 + 1);
         same("room for packet 7 alone", x.leastCapacity(5), 1);
         same("no port", x.leastCapacity(2), -1);
         fails("leastCapacity(6)", BOUNDS, () -> x.leastCapacity(6));
         fails("leastCapacity(-1)", BOUNDS, () -> x.leastCapacity(-1));
-        promise = "46 savingRules";
+        about("46 savingRules");
         same("two rules would drop packet 4", x.savingRules(2), 0);
         same("and packet 5", x.savingRules(3), 0);
         same("one rule packet 6", x.savingRules(4), 1);
@@ -999,7 +887,7 @@ public final class PromisesTest {
     }
 
     private static void moreExplanations() {
-        promise = "44 evidence";
+        about("44 evidence");
         DropSwitch x = made("port a 9 0;port b 9 0;port c 9 0;");
         ticks(x, 20);
         x.arrive(1, 2, 9, 1, 0);
@@ -1013,7 +901,7 @@ public final class PromisesTest {
         x.rewind(23);
         x.arrive(0, 1, 5, 1, 0);
         same("other events", x.count(4) + " " + evidence(x, 1), "2 22");
-        promise = "45 leastCapacity";
+        about("45 leastCapacity");
         DropSwitch y = made("port a 9 0;port b 5 0;wait 1;buffer 6;");
         y.arrive(0, 1, 2, 5, 0);
         y.arrive(0, 1, 2, 2, 0);
@@ -1027,7 +915,7 @@ public final class PromisesTest {
         }
         same("room for 11 packets", drop(most, 9) + " " + most.leastCapacity(9), "10 10 1 7 -1 99");
         same("none has room for 12", drop(most, 10) + " " + most.leastCapacity(10), "11 11 1 7 -1 -1");
-        promise = "46 savingRules";
+        about("46 savingRules");
         DropSwitch z = made("port a 9 0;port b 5 0;pass if size=4;drop if size<4;drop if size=5;");
         z.arrive(0, 1, 2, 4, 0);
         z.arrive(0, 1, 2, 3, 0);
@@ -1044,22 +932,22 @@ public final class PromisesTest {
             x.arrive(0, k % 2, 9, 1, 0);
         }
         same("all are DOWN", x.dropsBy(DropSwitch.DOWN), 90);
-        promise = "44 evidence";
+        about("44 evidence");
         same("asked for at once: the rule would drop it", x.evidence(89, 1) + " " + x.evidence(89, 0), "-1 90");
         same("of an even one", evidence(x, 88), "0 89");
         same("of earlier ones", evidence(x, 8) + "; " + evidence(x, 32) + "; " + evidence(x, 33), "0 9; 0 33; 34");
         x.rewind(70);
         x.link(0, true);
         x.arrive(0, 1, 9, 1, 0);
-        promise = "43 evidenceCount";
+        about("43 evidenceCount");
         same("after other events", x.evidenceCount(69) + " " + x.evidence(69, 0) + " " + x.evidenceCount(65), "1 71 1");
-        promise = "46 savingRules";
+        about("46 savingRules");
         same("of the last one", x.savingRules(69) + " " + x.savingRules(68), "2 0");
     }
 
     private static void formatted() {
         DropSwitch x = troubled();
-        promise = "47 formatDrop";
+        about("47 formatDrop");
         String[] texts = {"1@2 rule=1", "2@3 full bb", "0@4 pushed=3 bb", "4@5 rule=0", "5@6 down"};
         for (int drop = 0; drop < texts.length; drop++) {
             same("the length of " + texts[drop], x.formatDrop(drop), texts[drop].length());
@@ -1091,14 +979,14 @@ public final class PromisesTest {
         same("other causes", all.toString(), "0@0 full a; 1@1 back; 2@2 full a; 3@3 buffer a; "
                 + "3@3 buffer abcxyz; 4@4 buffer abcxyz; 4@4 buffer c; 5@5 policed; 0@7 stale c; 6@8 buffer c; "
                 + "6@10 lost abcxyz; 7@11 policed; 8@13 nowhere; ");
-        promise = "48 formatQueue";
+        about("48 formatQueue");
         DropSwitch z = made("port q 9 0;port abcxyz 99 0;");
         same("an empty queue", z.formatQueue(0) + formatted(z), "1q");
         for (int k = 0; k < 99; k++) {
             z.arrive(0, 1, 2, 1, k % 4);
         }
         same("the length", z.formatQueue(1), 6 + 10 * 4 + 89 * 5);
-        same("the text", formatted(z).substring(0, 22) + formatted(z).substring(486), "abcxyz 0.0 1.1 2.2 3.3" + " 98.2");
+        same("the text", formatted(z, 0, 22) + formatted(z, 486, MAX), "abcxyz 0.0 1.1 2.2 3.3" + " 98.2");
         fails("formatQueue(2)", BOUNDS, () -> z.formatQueue(2));
         fails("formatQueue(-1)", BOUNDS, () -> z.formatQueue(-1));
         ticks(z, 1);
@@ -1110,8 +998,8 @@ public final class PromisesTest {
             z.arrive(0, 1, 2, 1, 3);
         }
         same("three digits", z.formatQueue(1), 6 + 79 * 5 + 20 * 6);
-        same("its end", formatted(z).substring(515), " 119.3");
-        promise = "49 formattedByte";
+        same("its end", formatted(z, 515, MAX), " 119.3");
+        about("49 formattedByte");
         same("bytes", z.formattedByte(0) + " " + z.formattedByte(520) + " " + z.formattedByte(521), "97 51 -1");
         same("out of range", z.formattedByte(-1) + z.formattedByte(Integer.MIN_VALUE) + z.formattedByte(Integer.MAX_VALUE), -3);
         z.formatQueue(0);
@@ -1126,11 +1014,6 @@ public final class PromisesTest {
         };
         int[] want = {-1, 1, 2, 3, 4, 5, 6, 7, 8, 9, 10, 1, 2, 3, 4};
         same("constants", java.util.Arrays.toString(got), java.util.Arrays.toString(want));
-    }
-
-    private static void test(String name, Call call) {
-        promise = name;
-        call.run();
     }
 
     public static void main(String[] args) {
@@ -1161,9 +1044,6 @@ public final class PromisesTest {
         test("37 supposedDrops", PromisesTest::supposed);
         test("43 evidenceCount", PromisesTest::explanations);
         test("47 formatDrop", PromisesTest::formatted);
-        System.out.println("PromisesTest: " + passed + " answers as due, " + failed + " not");
-        if (failed != 0) {
-            System.exit(1);
-        }
+        end("PromisesTest");
     }
 }
