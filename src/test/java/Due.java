@@ -3,6 +3,8 @@ import java.nio.charset.StandardCharsets;
 import java.nio.file.Files;
 import java.nio.file.Path;
 import java.util.NoSuchElementException;
+import java.util.Set;
+import java.util.TreeSet;
 
 /** What the tests share: switches made of a text, answers put into words, and the count of those that are due. */
 abstract class Due {
@@ -13,11 +15,14 @@ abstract class Due {
     static final int MIN = Integer.MIN_VALUE;
     static final int MAX = Integer.MAX_VALUE;
 
-    private static final String DOCUMENT = document();
+    private static final String DOCUMENT_PATH = "../shared/DOC.md";
+    /** The document, or an empty text where it is not at hand: then nothing is looked up in it. */
+    static final String DOCUMENT = document();
     private static int passed = 0;
     private static int failed = 0;
     private static int sentences = 0;
     private static String subject = "";
+    private static final Set<String> subjects = new TreeSet<>();
 
     interface Call {
         void run();
@@ -26,17 +31,29 @@ abstract class Due {
     // ---- tests
 
     private static String document() {
+        if (Files.isReadable(Path.of(DOCUMENT_PATH))) {
+            return file(DOCUMENT_PATH);
+        }
+        System.out.println(DOCUMENT_PATH + " cannot be read: nothing is looked up in it");
+        return "";
+    }
+
+    static String file(String path) {
         try {
-            return Files.readString(Path.of("../shared/DOC.md"), StandardCharsets.UTF_8);
+            return Files.readString(Path.of(path), StandardCharsets.UTF_8);
         } catch (IOException e) {
-            System.out.println("../shared/DOC.md cannot be read: the sentences are not looked up in it");
-            return null;
+            throw new IllegalStateException(path + " cannot be read", e);
         }
     }
 
     /** Begins the tests of a subject. */
     static void about(String what) {
         subject = what;
+    }
+
+    /** Tells whether an answer was looked at whose subject begins with these words. */
+    static boolean wasLookedAt(String words) {
+        return subjects.stream().anyMatch(each -> each.startsWith(words));
     }
 
     /** Runs the tests of one subject. */
@@ -57,12 +74,13 @@ abstract class Due {
     static void says(String sentence, Call call) {
         sentences++;
         test("\"" + sentence + "\"", call);
-        if (DOCUMENT != null) {
+        if (!DOCUMENT.isEmpty()) {
             same("the sentence stands in the document", DOCUMENT.contains(sentence), true);
         }
     }
 
     static void same(String what, Object got, Object want) {
+        subjects.add(subject);
         if (got.equals(want)) {
             passed++;
         } else {

@@ -1,3 +1,6 @@
+import java.util.regex.Matcher;
+import java.util.regex.Pattern;
+
 /** At least one test for each promise of the document, in its order, with answers worked out by hand. */
 public final class PromisesTest extends Due {
     // ---- the promises
@@ -511,6 +514,31 @@ public final class PromisesTest extends Due {
         same("101", z.portOf(1), -1);
     }
 
+    private static void tableSize() {
+        DropSwitch x = made("port a 9 9;port b 9 9;port c 9 9;age 1;");
+        same("at first", x.tableSize(), 0);
+        x.arrive(0, 0, 63, 1, 0);
+        x.arrive(1, 63, 0, 1, 0);
+        same("the first address and the last", x.tableSize(), 2);
+        x.arrive(2, 0, 63, 1, 0);
+        same("an entry that is replaced", x.tableSize(), 2);
+        x.tick();
+        x.arrive(0, 7, 8, 1, 0);
+        same("at the age limit", x.tableSize(), 3);
+        x.tick();
+        same("older", x.tableSize(), 1);
+        x.link(1, false);
+        same("another link goes down", x.tableSize(), 1);
+        x.link(0, false);
+        same("its link goes down", x.tableSize(), 0);
+        x.arrive(0, 9, 8, 1, 0);
+        same("a packet that is dropped before it is learned", x.tableSize(), 0);
+        x.rewind(5);
+        same("back at the entry of address 7", x.tableSize(), 3);
+        x.suppose(3, 0, 0);
+        same("a supposed age limit", x.tableSize(), 3);
+    }
+
     private static void delivered() {
         DropSwitch x = made("port a 9 1;port b 9 2;port c 9 0;");
         x.arrive(0, 1, 2, 1, 0);
@@ -1016,9 +1044,21 @@ public final class PromisesTest extends Due {
         same("constants", java.util.Arrays.toString(got), java.util.Arrays.toString(want));
     }
 
+    /** No promise is left without an answer that was looked at. */
+    private static void allPromises() {
+        Matcher heading = Pattern.compile("(?m)^## Promise (\\d+: .+)$").matcher(DOCUMENT);
+        int promises = 0;
+        while (heading.find()) {
+            promises++;
+            String title = heading.group(1).replace(": ", " ");
+            same("answers on " + title, wasLookedAt(title), true);
+        }
+        same("how many promises the document has", promises, 49);
+    }
+
     public static void main(String[] args) {
         test("the constants", PromisesTest::constants);
-        test("1 DropSwitch", PromisesTest::newObject);
+        test("1 A new object", PromisesTest::newObject);
         test("2 append", PromisesTest::append);
         test("3 truncate", PromisesTest::truncate);
         test("4 load", PromisesTest::load);
@@ -1032,7 +1072,8 @@ public final class PromisesTest extends Due {
         test("12 eventKind", PromisesTest::eventKind);
         test("15 fill", PromisesTest::queues);
         test("19 tokens", PromisesTest::tokens);
-        test("20 portOf, 21 tableSize", PromisesTest::table);
+        test("20 portOf", PromisesTest::table);
+        test("21 tableSize", PromisesTest::tableSize);
         test("22 delivered", PromisesTest::delivered);
         test("23 fate", PromisesTest::fate);
         test("24 dropField", PromisesTest::drops);
@@ -1044,6 +1085,9 @@ public final class PromisesTest extends Due {
         test("37 supposedDrops", PromisesTest::supposed);
         test("43 evidenceCount", PromisesTest::explanations);
         test("47 formatDrop", PromisesTest::formatted);
+        if (!DOCUMENT.isEmpty()) {
+            test("all promises", PromisesTest::allPromises);
+        }
         end("PromisesTest");
     }
 }
